@@ -71,6 +71,10 @@ public final class HeardTest {
     BreathStreet late = Checks.on("f0 2 0 0;f0 2 0 0;");
     late.hear(0, 0);
     C.due("what is still to come parts too", late.watch(), 1);
+    // (0, 30), (1, 29), (2, 30): field 1 does not part them, and nothing is too early to count.
+    BreathStreet early = Checks.on("f0 2 0 0;f0 2 0 0;f0 2 0 0;");
+    early.hear(1, 29);
+    C.due("the earliest count too", early.watch(), 0);
   }
 
   private static void see() {
