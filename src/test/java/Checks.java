@@ -6,7 +6,7 @@ final class Checks {
   static final int NOT = BreathStreet.NOT;
   static final int FULL = BreathStreet.FULL;
 
-  /** The street of the document's own examples: four fields, two houses, three seams. */
+  /** The street of the shared tests: four fields, two houses, three seams. */
   static final String LANE = "f5 6 0 3;f8 4 1 2;f2 8 3 4;f9 5 0 1;h0 4;h2 9;s0 3 1 1;s1 4 2 2;s2 2 0 1;b0;";
 
   private int wrong = 0;

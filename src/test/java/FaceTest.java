@@ -72,6 +72,10 @@ public final class FaceTest {
     for (Class<?> part : parts) {
       c.due(part.getName() + " is static", part.getModifiers() & Modifier.STATIC, Modifier.STATIC);
       c.due(part.getName() + " is not public", part.getModifiers() & (Modifier.PUBLIC | Modifier.PROTECTED), 0);
+      for (Method m : part.getDeclaredMethods()) {
+        boolean isFace = Arrays.stream(METHODS).anyMatch(face -> face.replaceAll("\\d", "").equals(m.getName()));
+        c.due(part.getName() + "." + m.getName() + " has a name of its own", isFace ? 1 : 0, 0);
+      }
     }
   }
 }

@@ -126,6 +126,8 @@ public final class StepsEdgesTest {
     // The lean is 54 only where 11 stands low and 12 stands high.
     Run r = on("3: NEEDS: the least SLACK by which it never does", "f0 11 6 9;f0 12 0 9;h0 0;");
     r.due("house 0 2", 54).go("slack 0 54").due("cracks 0", NONE).go("slack 0 53").due("cracks 0", 126);
+    on("3: NEEDS at BREATH 0 alone", "f0 12 0 5;f30 2 0 0;h0 0;").due("house 0 2", 30).go("slack 0 29").due("cracks 0", 0);
+    on("3: NEEDS at the last BREATH of the round alone", "f0 12 1 5;f30 2 0 0;h0 0;").due("house 0 2", 30);
     on("3: NEEDS of level ground", TWO + "h0 0;").due("house 0 2", 0).due("cracks 0", NONE);
     on("3: NEEDS the other way", "f0 12 0 9;f0 11 6 9;h0 0;").due("house 0 2", 54);
     on("3: NEEDS does not hang on SLACK", "f0 2 0 0;f9 2 0 0;h0 99;").due("house 0 2", 9).go("slack 0 0").due("house 0 2", 9);
@@ -219,6 +221,12 @@ public final class StepsEdgesTest {
     C.due("5: BREATH", x.told(5), 900000);
     C.due("15: undone", x.undo(1), 899999);
     C.due("11: held to the last", x.hold(1), 899999);
+    C.due("15: undone", x.undo(2), 899998);
+    C.due("14: drifted to the last", x.drift(2) < 0 ? 1 : 0, 0);
+    C.due("5: STEPS", x.told(4), 900000);
+    C.due("15: undone", x.undo(40), 899960);
+    C.due("10: stepped to the last", x.step(40) < 0 ? 1 : 0, 0);
+    C.due("5: STEPS", x.told(4), 900000);
   }
 
   private static void rollBounds() {

@@ -40,6 +40,7 @@ public final class TextEdgesTest {
     ofFaultsAtOneLetterTheLeast();
     emptyTextHasNoFields();
     streetEmptiesTheText();
+    nothingOfFormerTextsIsLeft();
     streetStartsAnew();
     streetForgetsNotes();
     streetForgetsImagesAndUndone();
@@ -321,9 +322,21 @@ public final class TextEdgesTest {
   private static void streetEmptiesTheText() {
     fresh("3: it is empty then").feed(TWO).due("told 3", 18).due("street", 2).due("told 3", 0).due("street", 0);
     fresh("3: with a fault, too").feed("x").due("told 3", 1).due("street", -11).due("told 3", 0).due("street", 0);
-    fresh("3: nothing of the former text is left").feed(THREE).go("street").feed(FIELD).due("street", 1).due("told 0", 1);
-    fresh("3: nothing of the former text is left").feed(TWO + "h0 5;s0 1 0 0;b1;").go("street").feed(TWO)
-        .due("street", 2).due("told 1;told 2;told 6", 0);
+  }
+
+  private static void nothingOfFormerTextsIsLeft() {
+    String rich = "f1 11 0 0;f2 7 0 0;f3 5 0 0;h0 5;h1 6;s0 1 0 0;s1 1 0 0;b1;";
+    String bare = "f1 2 0 0;f2 2 0 0;";
+    // The latest text, the one ahead of it and one with a fault may each have left something.
+    fresh("3: nothing of the text ahead is left").feed(rich).go("street").feed(bare).due("street", 2).due("told 8", 2)
+        .due("told 1;told 2;told 6", 0).due("field 2 0;house 0 0;seam 0 0", Checks.UNKNOWN).due("roll 2", 1);
+    fresh("3: nothing of the text two ahead is left").feed(rich).go("street").feed(FIELD).go("street").feed(bare)
+        .due("street", 2).due("told 8", 2).due("told 1;told 2;told 6", 0).due("roll 2", 1);
+    fresh("3: nothing of a text with a fault is left").feed(rich + "x").due("street", -11).feed(bare).due("street", 2)
+        .due("told 8", 2).due("told 1;told 2;told 6", 0).due("roll 2", 1);
+    fresh("3: nothing of a text with a fault counts").feed(FIELD.repeat(8) + "x").due("street", -11).feed(FIELD.repeat(8))
+        .due("street", 8);
+    fresh("3: nothing of a text with a fault counts").feed(TWO + "b1;x").due("street", -11).feed(TWO + "b1;").due("street", 2);
   }
 
   private static void streetStartsAnew() {

@@ -128,6 +128,8 @@ public final class TriedEdgesTest {
   }
 
   private static void worstIsByWhatItNeedsMore() {
+    on("3: the first HOUSE", "f0 2 0 0;f9 2 0 0;h0 1;h0 5;h0 7;h0 9;").due("worst", 0);
+    on("3: the last HOUSE", "f0 2 0 0;f9 2 0 0;h0 9;h0 7;h0 5;h0 1;").due("worst", 3);
     // One needs 20 and has 19; the other needs 5 and has 3.
     on("3: needs most more than it has", "f0 2 0 0;f20 2 0 0;f15 2 0 0;h0 19;h1 3;").due("worst", 1).go("step 1;hold 3")
         .due("worst", 1);
@@ -170,6 +172,9 @@ public final class TriedEdgesTest {
     // Field 1 stands at 0, 9, 0, 9 beside field 0 at 4.
     on("3: by HEIGHTS behind that STEP", "f4 2 0 0;f0 2 0 9;").due("water 1 1", 0).due("water 1 2", 1).due("water 0 1", 0)
         .due("water 0 2", 1).go("step 1").due("water 1 1", 1).due("water 1 2", 0).go("hold 1").due("water 1 1", 1);
+    // Field 1 stands at 1, 2, 1, 0 beside field 0 at 1: it is lower at breath 3 alone.
+    on("3: by HEIGHTS behind that STEP, not ahead", "f1 2 0 0;f0 4 1 1;").due("water 0 1;water 0 2", 0).due("water 0 3", 1)
+        .go("step 2").due("water 0 1", 1);
   }
 
   private static void millBounds() {
