@@ -1,3 +1,5 @@
+import java.nio.file.Path;
+
 /** Counts the answers that are not as due, and ends the test. */
 final class Checks {
   static final int NONE = BreathStreet.NONE;
@@ -10,6 +12,12 @@ final class Checks {
   static final String LANE = "f5 6 0 3;f8 4 1 2;f2 8 3 4;f9 5 0 1;h0 4;h2 9;s0 3 1 1;s1 4 2 2;s2 2 0 1;b0;";
 
   private int wrong = 0;
+
+  /** Where the project lies: .ci/run tells it; by hand a test is run from there. */
+  static Path root() {
+    String told = System.getenv("BREATH_STREET_ROOT");
+    return Path.of(told == null ? "." : told);
+  }
 
   void due(String call, long got, long want) {
     if (got != want) {

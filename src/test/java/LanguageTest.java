@@ -1,5 +1,4 @@
 import java.nio.file.Files;
-import java.nio.file.Path;
 import java.util.Arrays;
 import java.util.regex.Matcher;
 import java.util.regex.Pattern;
@@ -14,8 +13,7 @@ public final class LanguageTest {
 
   public static void main(String[] args) throws Exception {
     Checks c = new Checks();
-    String path = System.getenv("BREATH_STREET_SOURCE");
-    String source = Files.readString(Path.of(path == null ? "src/main/java/BreathStreet.java" : path));
+    String source = Files.readString(Checks.root().resolve("src/main/java/BreathStreet.java"));
     String code = source.replaceAll("(?s)/\\*.*?\\*/", "").replaceAll("//[^\n]*", "");
     for (String word : WORDS) {
       c.due("the word " + word, count(code, "\\b" + word + (word.endsWith("(") ? "" : "\\b")), 0);
@@ -26,6 +24,7 @@ public final class LanguageTest {
     c.due("names that end in Exact", count(code, "Exact\\b"), 0);
     c.due("endless loops", count(code, "for \\(;;|while \\(true"), 0);
     c.due("signs beyond 127", count(source, "[^\\x00-\\x7f]"), 0);
+    made(c, code);
     libraryCalls(c, code);
     lengths(c, code);
     c.finish();
@@ -38,6 +37,13 @@ public final class LanguageTest {
       n++;
     }
     return n;
+  }
+
+  /** All is made with the object: a call that made anything would fill the room that all calls share. */
+  private static void made(Checks c, String code) {
+    String inFields = "(?m)^ +private (?:final )?\\w+(?:\\[\\])? \\w+ = new |^ +final \\w+(?:\\[\\])? \\w+ = new ";
+    c.due("what is made outside of fields", count(code, "\\bnew\\b") - count(code, inFields), 0);
+    c.due("copies of rows", count(code, "\\b(?:clone|copyOf|copyOfRange)\\("), 0);
   }
 
   private static void libraryCalls(Checks c, String code) {
